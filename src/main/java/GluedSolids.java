@@ -14,6 +14,9 @@ public final class GluedSolids {
     private static final int KEPT = 2;
     private static final int APART = -200;
 
+    /** Above every number that a solid has. */
+    private static final int ABOVE_ALL = 1 << 30;
+
     // Kinds of MOVES, in the order of their places.
     private static final int TWO_THREE = 0;
     private static final int THREE_TWO = 1;
@@ -96,7 +99,7 @@ public final class GluedSolids {
     private final Mover mover;
     private final Search search;
     private final Walks walks;
-    private final Dice dice;
+    private int drawState;
 
     public GluedSolids() {
         now = new Solid();
@@ -116,7 +119,6 @@ public final class GluedSolids {
         mover = new Mover(bones, numbering);
         search = new Search(mover, bones);
         walks = new Walks();
-        dice = new Dice();
     }
 
     // ---- texts
@@ -442,7 +444,7 @@ public final class GluedSolids {
         if (n < 1 || n > 12) {
             return NONE;
         }
-        dice.state = seed;
+        drawState = seed;
         trial.copy(now);
         int done = 0;
         for (int i = 0; i < n; i++) {
@@ -458,11 +460,16 @@ public final class GluedSolids {
     }
 
     private int drawOne(Solid s) {
-        int kind = dice.draw(4);
-        int tet = dice.draw(8);
-        int u = kind == ONE_FOUR ? 0 : dice.draw(4);
-        int v = kind == THREE_TWO ? dice.draw(4) : 0;
+        int kind = draw(4);
+        int tet = draw(8);
+        int u = kind == ONE_FOUR ? 0 : draw(4);
+        int v = kind == THREE_TWO ? draw(4) : 0;
         return mover.attempt(s, kind, tet, u, v);
+    }
+
+    private int draw(int n) {
+        drawState = drawState * 1103515245 + 12345;
+        return n < 1 ? 0 : (drawState >>> 16) % n;
     }
 
     public int undo() {
@@ -682,7 +689,7 @@ public final class GluedSolids {
 
         /** Renumbers a solid that hangs together: how many numberings have the least row. */
         int settle(Solid s) {
-            Arrays.fill(least, Integer.MAX_VALUE);
+            Arrays.fill(least, ABOVE_ALL);
             int ties = 0;
             for (int tet = 0; tet < s.tets; tet++) {
                 for (int turn = 0; turn < 24; turn++) {
@@ -901,7 +908,7 @@ public final class GluedSolids {
         }
 
         int leastDegree() {
-            int least = Integer.MAX_VALUE;
+            int least = ABOVE_ALL;
             for (int i = 0; i < MOST_ENDS; i++) {
                 if (degree[i] > 0) {
                     least = Math.min(least, degree[i]);
@@ -949,7 +956,7 @@ public final class GluedSolids {
         }
 
         int leastChi() {
-            int least = Integer.MAX_VALUE;
+            int least = ABOVE_ALL;
             for (int i = 0; i < MOST_FACES; i++) {
                 if (size[i] > 0) {
                     least = Math.min(least, chi(i));
@@ -1018,8 +1025,10 @@ public final class GluedSolids {
                 return ONES + tet;
             }
             if (kind == THREE_TWO) {
-                int inOrder = 16 * tet + 4 * Math.min(u, v) + Math.max(u, v);
-                return s.hasEdge(tet, u, v) ? THREES + inOrder : NONE;
+                if (!s.hasEdge(tet, u, v)) {
+                    return NONE;
+                }
+                return THREES + 16 * tet + 4 * Math.min(u, v) + Math.max(u, v);
             }
             if (!s.hasCorner(tet, u)) {
                 return NONE;
@@ -1148,19 +1157,19 @@ public final class GluedSolids {
         void make(Solid from, int place, Solid to) {
             to.clear(from.tets + growth(place));
             if (place < THREES) {
-                makeThree(from, place, to);
+                twoToThree(from, place, to);
             } else if (place < ONES) {
-                makeTwo(from, place - THREES, to);
+                threeToTwo(from, place - THREES, to);
             } else if (place < FOURS) {
-                makeFour(from, place - ONES, to);
+                oneToFour(from, place - ONES, to);
             } else {
-                makeOne(from, place - FOURS, to);
+                fourToOne(from, place - FOURS, to);
             }
             numbering.settle(to);
         }
 
         /** For each CORNER x of the FACE a new TET: the old one, the far CORNER in the place of x. */
-        private void makeThree(Solid from, int face, Solid to) {
+        private void twoToThree(Solid from, int face, Solid to) {
             int tet = face >> 2;
             int f = face & 3;
             int other = from.glue[face] >> 5;
@@ -1178,7 +1187,7 @@ public final class GluedSolids {
         }
 
         /** Two new TETS: the old one, the third CORNER around the EDGE in the place of the one end, of the other. */
-        private void makeTwo(Solid from, int end, Solid to) {
+        private void threeToTwo(Solid from, int end, Solid to) {
             int tet = end >> 4;
             int u = end >> 2 & 3;
             int v = end & 3;
@@ -1202,7 +1211,7 @@ public final class GluedSolids {
         }
 
         /** For each CORNER x a new TET: the old one, the new CORNER in the place of x. */
-        private void makeFour(Solid from, int tet, Solid to) {
+        private void oneToFour(Solid from, int tet, Solid to) {
             int stay = layOut(from, 1 << tet);
             for (int x = 0; x < 4; x++) {
                 put(4 * tet + x, stay + x, 0);
@@ -1212,7 +1221,7 @@ public final class GluedSolids {
         }
 
         /** The new TET: an old one, the fourth CORNER around the POINT in the place of the POINT. */
-        private void makeOne(Solid from, int corner, Solid to) {
+        private void fourToOne(Solid from, int corner, Solid to) {
             int tet = corner >> 2;
             int v = corner & 3;
             int stay = layOut(from, neighbours(from, corner) | 1 << tet);
@@ -1267,7 +1276,10 @@ public final class GluedSolids {
             }
         }
 
-        /** Glues new TETS, one for each CORNER but one, each to each: what is not at x in the one is not at y in the other. */
+        /**
+         * Glues new TETS, one for each CORNER but one, each to each: the one has the new CORNER in the place of x,
+         * the other in the place of y.
+         */
         private static void joinFan(Solid to, int first, int but) {
             for (int x = 0; x < 4; x++) {
                 for (int y = x + 1; y < 4; y++) {
@@ -1516,7 +1528,7 @@ public final class GluedSolids {
             return 2;
         }
 
-        /** Makes number k of the diagonal one that goes into all the rest, alone in its row and column: false if only 0 is left. */
+        /** Makes number k of the diagonal go into all the rest, alone in its row and column: false if only 0 is left. */
         private boolean clearCorner(int k) {
             for (int round = 0; round < MOST_ROUNDS; round++) {
                 if (!bringLeast(k)) {
@@ -1524,9 +1536,15 @@ public final class GluedSolids {
                 }
                 reduceRows(k);
                 reduceColumns(k);
-                if (isAlone(k) && goesIntoRest(k)) {
+                if (!isAlone(k)) {
+                    continue;
+                }
+                int undivided = rowNotDivided(k);
+                if (undivided < 0) {
                     return true;
                 }
+                // It leaves a rest in the corner's row that is smaller than the corner.
+                addRow(undivided, k);
             }
             return true;
         }
@@ -1534,11 +1552,11 @@ public final class GluedSolids {
         private boolean bringLeast(int k) {
             int row = NONE;
             int column = NONE;
-            long least = Long.MAX_VALUE;
+            long least = 0;
             for (int i = k; i < rows; i++) {
                 for (int j = k; j < pairs; j++) {
                     long here = Math.abs(sum[MOST_PAIRS * i + j]);
-                    if (here != 0 && here < least) {
+                    if (here != 0 && (row < 0 || here < least)) {
                         least = here;
                         row = i;
                         column = j;
@@ -1597,18 +1615,17 @@ public final class GluedSolids {
             return true;
         }
 
-        /** A row with a number that the corner does not go into is added to the corner's: it leaves a smaller rest. */
-        private boolean goesIntoRest(int k) {
+        /** The first row below with a number that the corner does not go into, or NONE. */
+        private int rowNotDivided(int k) {
             long corner = sum[MOST_PAIRS * k + k];
             for (int i = k + 1; i < rows && corner != 0; i++) {
                 for (int j = k + 1; j < pairs; j++) {
                     if (sum[MOST_PAIRS * i + j] % corner != 0) {
-                        addRow(i, k);
-                        return false;
+                        return i;
                     }
                 }
             }
-            return true;
+            return NONE;
         }
 
         private void addRow(int from, int to) {
@@ -1873,16 +1890,6 @@ public final class GluedSolids {
                 }
             }
             return false;
-        }
-    }
-
-    /** The DRAWS of a seed. */
-    private static final class Dice {
-        int state;
-
-        int draw(int n) {
-            state = state * 1103515245 + 12345;
-            return n < 1 ? 0 : (state >>> 16) % n;
         }
     }
 }
