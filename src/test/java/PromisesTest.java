@@ -1,3 +1,9 @@
+import java.util.ArrayList;
+import java.util.Arrays;
+import java.util.Collections;
+import java.util.List;
+import java.util.Random;
+
 /** Each promise of the document by itself: ordinary inputs, the edges that it names, and wrong inputs. */
 public final class PromisesTest {
   private static final Checks C = new Checks();
@@ -25,6 +31,7 @@ public final class PromisesTest {
     sidesGroupEulerAlike();
     twoAndThree();
     oneAndFour();
+    fourAroundOnePoint();
     trail();
     tries();
     comesAndLeads();
@@ -263,6 +270,22 @@ public final class PromisesTest {
     C.due("RANK 1 of a knot's complement at least", torus.group() >= 1, true);
     C.due("once round a REVERSED EDGE", Checks.solidOf(REVERSED).group(), 0);
     C.due("FREE EDGES bind nothing", Checks.solidOf("2001a011d").group(), 1);
+    // Found by chance; so chosen that numbers above 1 are left in a row, or do not go into one another at first.
+    String[][] many = {
+      {"1000h020j", "0 "}, {"3000g021a032a101l132r212w", "0 2"}, {"3000i021a032a102h112h132b", "0 6"}, {"3000j021a031q102a132q222j", "0 12"},
+      {"4000j021a032a103a112h132s213f313j", "1 4"}, {"5021a032a101l133a203o214a224n303g404p", "2 6"}, {"4031a112a123a203c223r233i", "2 "},
+      {"4011a021b032a123a203e212c313e", "1 2"}, {"3001a011c022a032q112n132c", "0 6"}, {"4001a011b022a033a122i133u213u233r", "1 2"},
+      {"3001a011c022a032t112k132r", "1 6"}, {"4010d031a102a111d213a223b233b", "1 2 2"}, {"5021a032a101t113a204a214o224g303t324n", "3 2 2"},
+      {"8011a021b031e102a213a224a235a305r325w336a407a416m517c617a627p", "7 2"},
+    };
+    for (String[] one : many) {
+      GluedSolids y = Checks.solidOf(one[0]);
+      C.due("group of " + one[0], y.group() + " " + Checks.row(y), one[1]);
+      PlainModel m = new PlainModel();
+      m.text = one[0];
+      m.solid();
+      C.due("of the plain model's " + one[0], m.group() + m.told.toString(), one[1].replaceFirst(" ", "[").replace(" ", ", ") + "]");
+    }
     five.two(0, 0);
     five.one(0);
     five.two(0, 0);
@@ -304,6 +327,8 @@ public final class PromisesTest {
     C.due("changed about", x.three(at[0], at[2], at[1]), 2);
     C.due("what it was", x.same(0), 1);
     C.due("of two TETS", Checks.solidOf(BALLS).three(0, 0, 1), -2);
+    GluedSolids turned = Checks.solidOf("3021a032a132h");
+    C.due("REVERSED, of three TETS", turned.degree(0, 0, 1) + " " + Checks.row(turned) + " " + turned.three(0, 0, 1), "3 0 1 -2");
     GluedSolids full = Checks.solidOf("8001a112a223a304a415a526a637a");
     C.due("there would be 9", full.two(0, gluedFace(full, 0)), -3);
     C.due("free, and there are 8", full.two(0, 0), -2);
@@ -366,6 +391,61 @@ public final class PromisesTest {
     five.keep(0);
     five.one(0);
     C.due("outer FACES glued to one another", five.simpler() + " " + five.same(0), "1 1");
+  }
+
+  /**
+   * Four TETS, their CORNERS 3 at one POINT, the twelve FACES there glued in pairs at random, those outside free: a 4-1
+   * can be just if each two TETS meet once and the POINT is ROUND, which is so then of no other POINT.
+   */
+  private static void fourAroundOnePoint() {
+    C.begin("20 four");
+    Random random = new Random(11);
+    int[] seen = new int[4];
+    GluedSolids x = new GluedSolids();
+    for (int i = 0; i < 20000; i++) {
+      boolean wantsEachOnce = i % 2 == 0;
+      int[][] met = new int[4][4];
+      String text = gluedAround(random, wantsEachOnce, met);
+      boolean isEachOnce = Arrays.deepToString(met).equals("[[0, 1, 1, 1], [1, 0, 1, 1], [1, 1, 0, 1], [1, 1, 1, 0]]");
+      if (Checks.solid(x, text) != 4) {
+        continue;
+      }
+      x.points();
+      boolean isRound = x.row(0) == 1;
+      x.comes();
+      C.due("places of 4-1 in " + text, x.row(3), isEachOnce && isRound ? 4 : 0);
+      if (x.row(3) == 0) {
+        C.due("it can't be in " + text, x.four(0, 0) + " " + x.four(1, 1) + " " + x.four(2, 2) + " " + x.four(3, 3), "-2 -2 -2 -2");
+      }
+      seen[(isEachOnce ? 2 : 0) + (isRound ? 1 : 0)]++;
+    }
+    C.due("all kinds were met", Math.min(Math.min(seen[0], seen[1]), Math.min(seen[2], seen[3])) > 0, true);
+  }
+
+  /** The text, and how often each two TETS meet. */
+  private static String gluedAround(Random random, boolean eachOnce, int[][] met) {
+    List<int[]> sides = new ArrayList<>();
+    for (int k = 0; k < 12; k++) {
+      sides.add(new int[] {k / 3, k % 3});
+    }
+    StringBuilder text = new StringBuilder("4");
+    Collections.shuffle(sides, random);
+    while (!sides.isEmpty()) {
+      int[] one = sides.remove(0);
+      int other = 0;
+      while (eachOnce && other < sides.size() - 1 && (sides.get(other)[0] == one[0] || met[one[0]][sides.get(other)[0]] > 0)) {
+        other++;
+      }
+      int[] two = sides.remove(other);
+      met[one[0]][two[0]]++;
+      met[two[0]][one[0]]++;
+      int[] p;
+      do {
+        p = PlainModel.PERMS.get(random.nextInt(24));
+      } while (p[3] != 3 || p[one[1]] != two[1]);
+      text.append(one[0]).append(one[1]).append(two[0]).append((char) ('a' + PlainModel.letter(p)));
+    }
+    return text.toString();
   }
 
   private static void trail() {

@@ -180,6 +180,9 @@ public final class RandomRunsTest {
     if (below(5) == 0) {
       return KNOWN[below(KNOWN.length)];
     }
+    if (below(6) == 0) {
+      return below(2) == 0 ? drawAroundEdge() : drawAroundPoint();
+    }
     int tets = 1 + below(below(3) == 0 ? 8 : 4);
     int[][][] s = PlainModel.lone(tets);
     StringBuilder b = new StringBuilder("" + tets);
@@ -190,10 +193,58 @@ public final class RandomRunsTest {
         addPair(s, b, t, below(4), to, free.get(below(free.size())));
       }
     }
-    int left = below(3) == 0 ? below(2 * tets + 1) : 2 * tets;
-    for (int i = 0; i < left; i++) {
-      int t = below(tets);
-      int to = below(tets);
+    return addSome(s, b, below(3) == 0 ? below(2 * tets + 1) : 2 * tets);
+  }
+
+  /** Three TETS, or some, around EDGE 0 1, closed up straight or turned; outside some more pairs. */
+  private String drawAroundEdge() {
+    int tets = below(2) == 0 ? 3 : 1 + below(5);
+    int[][][] s = PlainModel.lone(tets);
+    StringBuilder b = new StringBuilder("" + tets);
+    for (int t = 0; t < tets; t++) {
+      int to = (t + 1) % tets;
+      boolean isTurned = t == tets - 1 && below(3) == 0;
+      int[] p = isTurned ? new int[] {1, 0, 3, 2} : new int[] {0, 1, 3, 2};
+      PlainModel.glue(s, t, 2, to, p);
+      b.append(t).append(2).append(to).append((char) ('a' + PlainModel.letter(p)));
+    }
+    return addSome(s, b, below(2 * tets));
+  }
+
+  /** Four TETS, their CORNERS 3 at one POINT or at some, each two meeting once; outside some more pairs. */
+  private String drawAroundPoint() {
+    int[][][] s = PlainModel.lone(4);
+    StringBuilder b = new StringBuilder("4");
+    boolean isStraight = below(2) == 0;
+    for (int t = 0; t < 4; t++) {
+      for (int to = t + 1; to < 4; to++) {
+        int[] p;
+        do {
+          p = PlainModel.PERMS.get(below(24));
+        } while (p[3] != 3 || p[to - 1] != t || isStraight && !isFan(p, t, to));
+        PlainModel.glue(s, t, to - 1, to, p);
+        b.append(t).append(to - 1).append(to).append((char) ('a' + PlainModel.letter(p)));
+      }
+    }
+    return addSome(s, b, below(4));
+  }
+
+  /** TET t has around the POINT those of 0 .. 3 that are not t, in order: whether a permutation sends each to itself. */
+  private static boolean isFan(int[] p, int t, int to) {
+    for (int c = 0; c < 3; c++) {
+      int mine = c < t ? c : c + 1;
+      int theirs = p[c] < to ? p[c] : p[c] + 1;
+      if (mine != to && mine != theirs) {
+        return false;
+      }
+    }
+    return true;
+  }
+
+  private String addSome(int[][][] s, StringBuilder b, int some) {
+    for (int i = 0; i < some; i++) {
+      int t = below(s.length);
+      int to = below(s.length);
       List<Integer> mine = freeOf(s, t);
       List<Integer> theirs = freeOf(s, to);
       if (!mine.isEmpty() && !theirs.isEmpty()) {
