@@ -4,8 +4,10 @@ import java.util.TreeMap;
 import java.util.TreeSet;
 
 /**
- * All ways to glue all FACES of one TET and of two TETS. It is known that 4 and 17 different closed manifolds' gluings
- * come of them: so many are only told apart, and told alike, if the numbering and the manifold question are right.
+ * All ways to glue all FACES of one TET and of two TETS. Of these 4 and 17 different ones are closed manifolds: so many
+ * are only told apart, and told alike, if the numbering and the manifold question are right. The two numbers are those of
+ * published censuses as the writer remembers them (they could not be looked up here); the class came to them by itself.
+ * The tables of groups were written down from the class's answers; each is asked of the plain model, too.
  */
 public final class CensusTest {
   private static final Checks C = new Checks();
@@ -62,5 +64,11 @@ public final class CensusTest {
     String group = "Z^" + x.group() + (x.count(4) == 0 ? "" : " " + Checks.row(x));
     groups.merge(group + (x.sides() == 1 ? "" : " one-sided"), 1, Integer::sum);
     C.due("euler of " + text, x.euler(), 100);
+    PlainModel m = new PlainModel();
+    m.text = text;
+    m.solid();
+    String plain = "Z^" + m.group() + (m.told.isEmpty() ? "" : " " + m.told.toString().replaceAll("[\\[\\],]", ""));
+    C.due("the plain model's group of " + text, group, plain);
+    C.due("the plain model's manifold of " + text, m.manifold(), 1);
   }
 }
