@@ -325,7 +325,7 @@ public final class MoveBoundsTest {
     for (Left.Calls made : ANY) {
       int tets = Left.made(made).count(0);
       Left.allButTextAndRow(C, "an empty one", writeBehind(made, ""), GluedSolids::trail, 0, "0 " + tets);
-      for (String step : new String[] {"t9", "t8", "t" + (tets % 8 + tets / 8 * 8), "f04", "f09", "e000", "e040", "e004", "p04", "p99", "f99", "e999"}) {
+      for (String step : new String[] {"t9", "t8", "t" + tets, "f04", "f09", "e000", "e040", "e004", "p04", "p99", "f99", "e999"}) {
         Left.allButTextAndRow(C, "none done", writeBehind(made, step), GluedSolids::trail, 0, "1 " + tets);
         Left.allButTextAndRow(C, "none done, though the next could be", writeBehind(made, step + "t0f01"), GluedSolids::trail, 0, "1 " + tets);
       }

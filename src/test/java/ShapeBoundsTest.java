@@ -275,7 +275,7 @@ public final class ShapeBoundsTest {
     Left.all(C, "euler", Left::some, GluedSolids::euler, 100);
     Left.all(C, "below 100", x -> Checks.solid(x, "1000h020h"), GluedSolids::euler, 99);
     Left.all(C, "three below", x -> Checks.solid(x, "8021a032a112m223a304a315a334c416a506u527a707h"), GluedSolids::euler, 97);
-    // 11 POINTS, 25 EDGES, 25 FACES, 8 TETS.
+    // 11 POINTS, 27 EDGES, 25 FACES, 8 TETS.
     Left.all(C, "many free", x -> Checks.solid(x, Left.LINE), GluedSolids::euler, 101);
   }
 
