@@ -16,7 +16,7 @@ final class Left {
   static final String ONE_EDGE = "8000i021a032a102b113a134a214w225a306a324o337a415t516f537x617o627g";
 
   private static final String[] NAMES = {"THE SOLID", "THE ROW", "THE TEXT", "what was heard", "what is kept", "what can be undone"};
-  private static final int THE_ROW = 1;
+  static final int THE_ROW = 1;
   private static final int THE_TEXT = 2;
 
   private Left() {
