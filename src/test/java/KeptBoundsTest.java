@@ -22,6 +22,7 @@ public final class KeptBoundsTest {
     fitsByWhatElse();
     fitsOfNothing();
     fitsOfEight();
+    fitsWhicheverIsFirst();
     keep();
     again();
     same();
@@ -195,6 +196,46 @@ public final class KeptBoundsTest {
     x.heard(1, 0);
     x.heard(1, 1);
     C.due("one against the other", x.fits() + " " + x.count(4), "0 0");
+  }
+
+  /** The first EDGE that fits is at any TET and at any CORNERS; of the plain model's answers each such place is met. */
+  private static void fitsWhicheverIsFirst() {
+    C.begin("31 fits, the first");
+    String[] texts = {
+      "1020b", "1000g020b", "2031a", TURNED, Left.LINE, FORTY_SEVEN,
+      "3001a011b022a032c122m132j", "5011a021i032a122l133a214a303o314e404q",
+      "6021a032a133a214a225a305s314t425i", "6000i021a032a103a113i132l213o224a334a405a415b525j", "6031a122a203a214a314e324q335a",
+      "6011a022a033a101p134a205a213t234s314o405k525p", "6021a032a101i132k203a214a314j324b335a505o", "5021a031c102a113a213j234a304n334q",
+    };
+    boolean[] tets = new boolean[8];
+    boolean[] corners = new boolean[16];
+    for (String text : texts) {
+      PlainModel m = new PlainModel();
+      m.text = text;
+      m.solid();
+      GluedSolids x = Checks.solidOf(text);
+      for (int tet = 0; tet < m.now.length; tet++) {
+        for (int what = 0; what < 5; what++) {
+          for (int v : what == 0 ? new int[] {1, 2, 3, 4, 5, 47, 48} : new int[] {0, 1}) {
+            m.forget();
+            m.heard(3, tet);
+            m.heard(what, v);
+            x.forget();
+            x.heard(3, tet);
+            x.heard(what, v);
+            int due = m.fits();
+            String row = m.told.toString().replaceAll("[\\[\\],]", "");
+            C.due("TET " + tet + ", heard(" + what + ", " + v + ") of " + text, x.fits() + ": " + Checks.row(x), due + ": " + row);
+            if (due > 0) {
+              tets[m.told.get(0).intValue()] = true;
+              corners[4 * m.told.get(1).intValue() + m.told.get(2).intValue()] = true;
+            }
+          }
+        }
+      }
+    }
+    C.due("TETS", Arrays.toString(Arrays.copyOf(tets, 6)), "[true, true, true, true, true, true]");
+    C.due("CORNERS", corners[1] && corners[2] && corners[3] && corners[6] && corners[7] && corners[11], true);
   }
 
   private static void keep() {
