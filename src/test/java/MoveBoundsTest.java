@@ -26,6 +26,7 @@ public final class MoveBoundsTest {
     tries();
     comes();
     leads();
+    everyPlace();
     simpler();
     wayRefused();
     wayFindsTillN();
@@ -387,6 +388,16 @@ public final class MoveBoundsTest {
     Left.allButRow(C, "comes", Left::fresh, GluedSolids::comes, 1, "0 0 1 0");
     Left.allButRow(C, "eight TETS, none", of(Left.LINE), GluedSolids::comes, 0, "0 0 0 0");
     Left.allButRow(C, "full", Left::full, GluedSolids::comes, 0, "0 0 0 0");
+    GluedSolids other = Checks.solidOf("3001a112a");
+    String told = "";
+    for (String text : new String[] {"1", Left.BALLS, Left.LINE, "1", Left.FIVE}) {
+      other.comes();
+      other.keep(0);
+      other.way(0, 30, 8);
+      Checks.solid(other, text);
+      told += other.comes() + ": " + Checks.row(other) + ", ";
+    }
+    C.due("nothing of an earlier one is left", told, "1: 0 0 1 0, 2: 8 0 2 0, 0: 0 0 0 0, 1: 0 0 1 0, 1: 0 0 1 0, ");
     for (int tets = 2; tets <= 8; tets++) {
       GluedSolids x = Checks.solidOf(line(tets));
       x.comes();
@@ -433,6 +444,87 @@ public final class MoveBoundsTest {
       x.again(0);
       C.due("and back", x.leads(1), tets == 8 ? -2 : 1);
     }
+  }
+
+  /**
+   * Each place, in the document's order, by the call, by a trail of one step and tried; then leads() to what it came to, which
+   * tells the first place that comes to that, and comes(), which tells how many can be and how many different ones there are.
+   */
+  private static void everyPlace() {
+    C.begin("21 to 24, every place");
+    String[] texts = {
+      "1", Left.BALLS, "2001a", "3001a112a", "3021a032a132h", "5001a011c021h032a113a204a213n224l324e334a", "5021a031c102a113a213j234a304n334q",
+      "6021a032a133a214a225a305s314t425i", "6031a122a203a214a314e324q335a", "7031a122a233a314a405a516a", line(5), Left.LINE,
+      "4011a022a033a122h133j203p213a", "5011a022a033a102k123t204a233f304m414f", "5001a011b022a032i122q133a214a304v314x324w",
+      "5000h021a032a101w113a204a213q223w324a414k", "4001a011c022a033a113s132r213u233e", "5011a021i032a122l133a214a303o314e404q",
+    };
+    boolean[][] met = new boolean[4][16];
+    boolean[][] tets = new boolean[4][8];
+    for (String text : texts) {
+      everyPlaceOf(Checks.solidOf(text), met, tets);
+      for (int tet = 0; tet < text.charAt(0) - '0'; tet++) {
+        GluedSolids x = Checks.solidOf(text);
+        GluedSolids y = Checks.solidOf(text);
+        if (x.two(tet, firstGlued(x, tet)) > 0) {
+          everyPlaceOf(x, met, tets);
+        }
+        if (y.one(tet) > 0) {
+          everyPlaceOf(y, met, tets);
+        }
+      }
+    }
+    C.due("first places of 2-3 at FACES", met[0][0] && met[0][1] && met[0][2] && met[0][3], true);
+    C.due("of 3-2 at CORNERS", met[1][1] && met[1][2] && met[1][3] && met[1][6] && met[1][7] && met[1][11], true);
+    C.due("of 4-1 at CORNERS", met[3][0] && met[3][1] && met[3][2] && met[3][3], true);
+    for (int kind = 0; kind < 4; kind++) {
+      C.due("of kind " + kind + " at TETS 0 to 3", tets[kind][0] && tets[kind][1] && tets[kind][2] && tets[kind][3], true);
+    }
+  }
+
+  private static int move(GluedSolids x, int[] p) {
+    return p[0] == 0 ? x.two(p[1], p[2]) : p[0] == 1 ? x.three(p[1], p[2], p[3]) : p[0] == 2 ? x.one(p[1]) : x.four(p[1], p[2]);
+  }
+
+  private static void everyPlaceOf(GluedSolids x, boolean[][] met, boolean[][] tets) {
+    String text = Checks.shown(x);
+    x.keep(0);
+    Map<String, String> first = new LinkedHashMap<>();
+    int[] can = new int[4];
+    for (int[] p : PlainModel.places(new int[x.count(0)][4][])) {
+      String step = "fetp".substring(p[0], p[0] + 1);
+      String place = "";
+      for (int k = 1; k < p.length; k++) {
+        step += p[k];
+        place += (k == 1 ? "" : " ") + p[k];
+      }
+      x.again(0);
+      int answer = move(x, p);
+      if (answer < 0) {
+        C.due(step + " of " + text, Checks.tries(x, step) + " " + Checks.row(x), text.charAt(0) + " 0 1");
+        C.due(step + " of " + text, Checks.trail(x, step) + " " + Checks.row(x), "0 1 " + text.charAt(0));
+        continue;
+      }
+      can[p[0]]++;
+      x.keep(1);
+      if (first.putIfAbsent(Checks.shown(x), p[0] + ": " + place) == null) {
+        tets[p[0]][p[1]] = true;
+        met[p[0]][p[0] == 2 ? 0 : p[0] == 1 ? 4 * p[2] + p[3] : p[2]] = true;
+      }
+      String due = first.get(Checks.shown(x));
+      x.again(0);
+      C.due("leads to what " + step + " comes to from " + text, x.leads(1) + ": " + Checks.row(x), due);
+      C.due("tries " + step + " of " + text, Checks.tries(x, step) + " " + Checks.row(x) + " " + x.same(0), answer + " 1 0 1");
+      C.due("trail " + step + " of " + text, Checks.trail(x, step) + " " + Checks.row(x) + " " + x.same(1), "1 0 " + answer + " 1");
+      C.due("undone", x.undo() + " " + x.same(0), "0 1");
+      // Two steps: the second one is where the first one has come to.
+      String two = Checks.tries(x, "t" + (text.charAt(0) - '1') + step) + " " + Checks.row(x);
+      boolean isOne = x.one(text.charAt(0) - '1') > 0;
+      C.due("a step behind another one", two, (isOne ? (Math.max(move(x, p), x.count(0)) + " " + (x.count(2) == 2 ? 2 : 1)) : text.charAt(0) + " 0") + " " + x.same(0));
+    }
+    x.again(0);
+    String due = first.size() + " " + can[0] + " " + can[1] + " " + can[2] + " " + can[3];
+    C.due("comes of " + text, x.comes() + " " + Checks.row(x), due);
+    C.due("comes once more", x.comes() + " " + Checks.row(x), due);
   }
 
   private static void simpler() {

@@ -207,6 +207,8 @@ public final class ShapeBoundsTest {
     Left.allButRow(C, "sides", x -> Checks.solid(x, "2001a"), GluedSolids::sides, 1, "2");
     Left.allButRow(C, "sides", x -> Checks.solid(x, "2001b"), GluedSolids::sides, 1, "2");
     Left.allButRow(C, "sides", x -> Checks.solid(x, "2001a011b"), GluedSolids::sides, 0, "");
+    // Five TETS, each GLUED to each: TET 1 is GLUED to TET 0 by one FACE alone, the first of all.
+    Left.allButRow(C, "sides", x -> Checks.solid(x, Left.BALLS) + x.one(0), GluedSolids::sides, 1, "30");
     Left.allButRow(C, "sides", x -> manyToldThenOneSided(x), GluedSolids::sides, 0, "");
     int last = 0;
     int both = 0;
@@ -257,13 +259,36 @@ public final class ShapeBoundsTest {
     Left.allButRow(C, "two TORSIONS, rising", x -> Checks.solid(x, "5001a011b022a032i122q133a214a304v314x324w"), GluedSolids::group, 0, "2 6");
     Left.allButRow(C, "two that are alike", x -> Checks.solid(x, "4001a011c022a033a113s132r213u233e"), GluedSolids::group, 0, "3 3");
     String many = "8011a022a033a102l124a135a206a235v307a316v327c405m416i435f727n";
+    // The pair of the last TET alone is bound by its last EDGE alone.
+    Left.allButRow(C, "the last EDGE of the last TET", x -> Checks.solid(x, "5031a112a123a334a404g"), GluedSolids::group, 0, "");
+    // Found by trying: wrong if a sum is not taken from another one that is less than twice as great.
+    for (String text : new String[] {"2000h021a031c101h", "3000g021a031a102a112q212x", "3001a011a022a032a122q132w"}) {
+      Left.allButRow(C, "remainders that leave nothing, " + text, x -> Checks.solid(x, text), GluedSolids::group, 0, "");
+    }
+    Left.allButRow(C, "RANK 1 and none", x -> Checks.solid(x, "3000h021a031c102a112a222n"), GluedSolids::group, 1, "");
+    Left.allButRow(C, "a sum that begins with 0", x -> Checks.solid(x, "1000h020d"), GluedSolids::group, 0, "3");
+    Left.allButRow(C, "TORSION 4", x -> Checks.solid(x, "1000j020j"), GluedSolids::group, 0, "4");
+    groupAgainAndAgain();
     Left.allButRow(C, "RANK 8", x -> Checks.solid(x, many), GluedSolids::group, 8, "");
-    for (String text : new String[] {Left.ONE_EDGE, ONE_REVERSED, FORTY_SEVEN, many, Left.FIVE, "1000i", "1000h020h", "1000i020j"}) {
+    for (String text : new String[] {Left.ONE_EDGE, ONE_REVERSED, FORTY_SEVEN, many, Left.FIVE, "1000i", "1000h020h", "1000i020j", "2000h021a031c101h"}) {
       PlainModel m = new PlainModel();
       m.text = text;
       m.solid();
       GluedSolids x = Checks.solidOf(text);
       C.due("of the plain model's " + text, x.group() + " " + Checks.row(x), m.group() + " " + m.told.toString().replaceAll("[\\[\\],]", ""));
+    }
+  }
+
+  /** Nothing of an earlier question is left in a later one. */
+  private static void groupAgainAndAgain() {
+    GluedSolids x = new GluedSolids();
+    for (int i = 0; i < 30; i++) {
+      Checks.solid(x, i % 2 == 0 ? FORTY_SEVEN : Left.BALLS);
+      x.group();
+      Checks.solid(x, Left.FIVE);
+      C.due("again, number " + i, x.group() + " " + Checks.row(x), "0 5");
+      Checks.solid(x, "1000i");
+      C.due("another one, number " + i, x.group() + " " + x.count(4), "1 0");
     }
   }
 
