@@ -5,15 +5,49 @@ final class Both {
   final GluedSolids x = new GluedSolids();
   final PlainModel m = new PlainModel();
 
+  /** Calls as a text, "one 0; edges", on both; the answers are not looked at. */
+  void run(String calls) {
+    for (String call : calls.split("; ")) {
+      value(true, nameOf(call), argumentsOf(call));
+      value(false, nameOf(call), argumentsOf(call));
+    }
+  }
+
+  /** A call as a text, on both: its answer, and what is held behind it, must be the plain model's. */
+  void compare(Checks c, String ahead, String call) {
+    String got = answer(true, nameOf(call), argumentsOf(call));
+    c.due(call + " behind " + ahead, got, answer(false, nameOf(call), argumentsOf(call)));
+  }
+
+  /** A call as a text, on the class alone. */
+  Object askByText(String call) {
+    return ask(nameOf(call), argumentsOf(call));
+  }
+
+  private static String nameOf(String call) {
+    return call.split(" ")[0];
+  }
+
+  private static int[] argumentsOf(String call) {
+    String[] words = call.split(" ");
+    int[] a = new int[words.length - 1];
+    for (int i = 0; i < a.length; i++) {
+      a[i] = Integer.parseInt(words[i + 1]);
+    }
+    return a;
+  }
+
+  private String value(boolean real, String name, int... a) {
+    try {
+      return String.valueOf(real ? ask(name, a) : askModel(name, a));
+    } catch (NoSuchElementException e) {
+      return "NoSuchElementException";
+    }
+  }
+
   /** The answer, the ROW and the counts behind it, as one text. */
   String answer(boolean real, String name, int... a) {
-    String answer;
-    try {
-      answer = String.valueOf(real ? ask(name, a) : askModel(name, a));
-    } catch (NoSuchElementException e) {
-      answer = "NoSuchElementException";
-    }
-    StringBuilder b = new StringBuilder(answer).append(" row");
+    StringBuilder b = new StringBuilder(value(real, name, a)).append(" row");
     int many = real ? x.count(4) : m.count(4);
     for (int i = 0; i < many; i++) {
       b.append(' ').append(real ? x.row(i) : m.row(i));

@@ -6,6 +6,8 @@ import java.lang.reflect.Modifier;
 import java.nio.file.Files;
 import java.nio.file.Path;
 import java.util.Arrays;
+import java.util.HashMap;
+import java.util.Map;
 import java.util.Set;
 import java.util.TreeSet;
 import java.util.regex.Matcher;
@@ -25,8 +27,10 @@ public final class FaceTest {
 
   public static void main(String[] args) throws IOException {
     faceIsTheDocuments();
+    faceIsAsTheDocumentWritesIt();
     classesKeepToTheRules();
     textKeepsToTheRules();
+    callsKeepToTheRules();
     C.end("face");
   }
 
@@ -57,10 +61,46 @@ public final class FaceTest {
     C.due("NONE", GluedSolids.NONE, -1);
   }
 
-  private static void classesKeepToTheRules() {
+  /** Each line of the document's face, what it throws too, against the class. */
+  private static void faceIsAsTheDocumentWritesIt() throws IOException {
+    String page = Files.readString(Path.of("../shared/DOC.md"));
+    int at = page.indexOf("public final class GluedSolids {");
+    C.begin("the document's face");
+    C.due("it is there", at >= 0, true);
+    Set<String> written = new TreeSet<>();
+    Matcher line = Pattern.compile("(?m)^ +public ((?:int|long|boolean) \\w+\\([^)]*\\)(?: throws \\w+)?);").matcher(page.substring(at));
+    while (line.find()) {
+      written.add(line.group(1).replaceAll("(int|long) \\w+(?=[,)])", "$1").replace(", ", ","));
+    }
+    Set<String> there = new TreeSet<>();
+    for (Method m : GluedSolids.class.getDeclaredMethods()) {
+      if (Modifier.isPublic(m.getModifiers())) {
+        StringBuilder b = new StringBuilder(told(m));
+        for (Class<?> e : m.getExceptionTypes()) {
+          b.append(" throws ").append(e.getSimpleName());
+        }
+        there.add(b.toString());
+      }
+    }
+    C.due("calls", there, written);
+    C.due("how many", written.size(), FACE.length);
+    C.due("the constant", page.contains("public static final int NONE = " + GluedSolids.NONE + ";"), true);
+  }
+
+  private static Set<String> namesOfTheFace() {
     Set<String> names = new TreeSet<>();
     for (String f : FACE) {
       names.add(f.substring(f.indexOf(' ') + 1, f.indexOf('(')));
+    }
+    return names;
+  }
+
+  private static void classesKeepToTheRules() {
+    Set<String> names = namesOfTheFace();
+    C.begin("rule 1");
+    for (Method m : GluedSolids.class.getDeclaredMethods()) {
+      boolean isHidden = Modifier.isPrivate(m.getModifiers());
+      C.due("a private " + m.getName() + " beside a public one", isHidden && names.contains(m.getName()), false);
     }
     Class<?>[] inside = GluedSolids.class.getDeclaredClasses();
     C.begin("rule 11");
@@ -79,9 +119,13 @@ public final class FaceTest {
     }
   }
 
-  private static void textKeepsToTheRules() throws IOException {
+  private static String code() throws IOException {
     String text = Files.readString(Path.of("src/main/java/GluedSolids.java"));
-    String code = text.replaceAll("(?s)/\\*.*?\\*/", "").replaceAll("//[^\n]*", "");
+    return text.replaceAll("(?s)/\\*.*?\\*/", "").replaceAll("//[^\n]*", "");
+  }
+
+  private static void textKeepsToTheRules() throws IOException {
+    String code = code();
     C.begin("words that the rules leave out");
     String[] out = {
       "->", "::", "\\btry\\b", "\\bcatch\\b", "\\bfinally\\b", "\\bsynchronized\\b", "\\bassert\\b", "\\bstatic\\s*\\{", "\\bMAX_VALUE\\b",
@@ -105,5 +149,49 @@ public final class FaceTest {
       imports.add(i.group(1));
     }
     C.due("imports", imports, "[java.util.Arrays, java.util.NoSuchElementException]");
+    Set<String> used = new TreeSet<>();
+    Matcher u = Pattern.compile("\\b(Integer|Long|Math|System|Arrays|Character|Boolean|Object|Thread|Class)\\.(\\w+)").matcher(code);
+    while (u.find()) {
+      used.add(u.group());
+    }
+    C.due("of the library", used, "[Arrays.fill, Integer.bitCount, Math.abs, Math.max, Math.min, System.arraycopy]");
+    C.begin("rule 6");
+    Set<String> thrown = new TreeSet<>();
+    Matcher t = Pattern.compile("\\bthrow\\b[^;]*;").matcher(code);
+    while (t.find()) {
+      thrown.add(t.group());
+    }
+    C.due("what is thrown", thrown, "[throw new NoSuchElementException();]");
+  }
+
+  /** By names alone: methods of like names count as one, so this finds no fewer levels than there are. */
+  private static void callsKeepToTheRules() throws IOException {
+    Map<String, Set<String>> calls = new HashMap<>();
+    Pattern method = Pattern.compile("(?m)^( {4,8})(?:\\w[\\w\\[\\]]* )+(\\w+)\\([^;{]*\\{\n(.*?)\n\\1\\}", Pattern.DOTALL);
+    String code = code();
+    Matcher m = method.matcher(code);
+    for (int from = 0; m.find(from); from = m.end()) {
+      Set<String> called = calls.computeIfAbsent(m.group(2), name -> new TreeSet<>());
+      Matcher c = Pattern.compile("\\b(\\w+)\\(").matcher(m.group(3).replaceAll("\\b(Arrays|Math|System|Integer)\\.\\w+", ""));
+      while (c.find()) {
+        called.add(c.group(1));
+      }
+    }
+    C.begin("rules 8 and 11");
+    C.due("methods were seen", calls.size() > 100, true);
+    for (String name : namesOfTheFace()) {
+      C.due("calls of " + name + " go at most eight deep", depth(calls, name, 0) <= 8, true);
+    }
+  }
+
+  /** How many calls stand open at once; a recursion counts as far too many. */
+  private static int depth(Map<String, Set<String>> calls, String name, int open) {
+    int deepest = 0;
+    if (open < 40) {
+      for (String called : calls.getOrDefault(name, Set.of())) {
+        deepest = Math.max(deepest, calls.containsKey(called) ? depth(calls, called, open + 1) : 0);
+      }
+    }
+    return deepest + 1;
   }
 }

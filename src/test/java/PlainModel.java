@@ -129,8 +129,14 @@ final class PlainModel {
     return all;
   }
 
+  /** Least rows that were asked before: the same few solids are asked for over and over. */
+  private static final Map<String, List<Integer>> LEAST_ROWS = new HashMap<>();
+
   static List<Integer> leastRow(int[][][] s) {
-    return Collections.min(allRows(s), PlainModel::compare);
+    if (LEAST_ROWS.size() > 100000) {
+      LEAST_ROWS.clear();
+    }
+    return LEAST_ROWS.computeIfAbsent(Arrays.deepToString(s), key -> Collections.min(allRows(s), PlainModel::compare));
   }
 
   static int[][][] fromRow(List<Integer> row) {
