@@ -269,6 +269,7 @@ public final class ShapeBoundsTest {
     Left.allButRow(C, "a sum that begins with 0", x -> Checks.solid(x, "1000h020d"), GluedSolids::group, 0, "3");
     Left.allButRow(C, "TORSION 4", x -> Checks.solid(x, "1000j020j"), GluedSolids::group, 0, "4");
     groupAgainAndAgain();
+    torsionsGoIntoEachOther();
     Left.allButRow(C, "RANK 8", x -> Checks.solid(x, many), GluedSolids::group, 8, "");
     for (String text : new String[] {Left.ONE_EDGE, ONE_REVERSED, FORTY_SEVEN, many, Left.FIVE, "1000i", "1000h020h", "1000i020j", "2000h021a031c101h"}) {
       PlainModel m = new PlainModel();
@@ -276,6 +277,31 @@ public final class ShapeBoundsTest {
       m.solid();
       GluedSolids x = Checks.solidOf(text);
       C.due("of the plain model's " + text, x.group() + " " + Checks.row(x), m.group() + " " + m.told.toString().replaceAll("[\\[\\],]", ""));
+    }
+  }
+
+  /**
+   * Found by trying: in the first seven, numbers that do not go into one another (2 and 5, 2 and 7, 2 and 3) are met in rows
+   * that do not follow one another. What is due is what model.py says.
+   */
+  private static void torsionsGoIntoEachOther() {
+    String[][] all = {
+      {"3001h012a230g201q131j022f", "0", "10"}, {"3001p032a211s200g220t111r", "0", "10"},
+      {"4001k032k123c100h302u021h213r322i", "0", "14"}, {"4001l102b033w222d300q120s213l321h", "0", "6"},
+      {"4001x112c123p030q023u102f233s213b", "0", "6"}, {"5001m112e133x214p011n422q403u313x030b432u", "0", "6"},
+      {"6021l002d103c034v415d234k333s312w511f110o432d535x", "0", "6"}, {"4001c012f223s123k330o202k021b321r", "0", "2 6"},
+      {"4021x012j133a032p233n103b002j123a", "0", "2 6"}, {"5011w032e113m214f402d233q020w131v424x323n", "0", "3 3"},
+      {"5021b122v213q324q203f420c412k000x311u431r", "1", "3 3"}, {"5021h112o223k334q120r430o202u400c313c104o", "1", "2 4"},
+      {"6001n012v203k104q415d235i404v031m515m333r322g021s", "2", "2 2"}, {"2001p021i110l130d", "0", "2 2"},
+      {"8011f102g123r224c005f306m117k515i637k030b432x537r402s614w336v327e", "5", "2 2"}, {"3001k132k022q032o012o121w", "0", "2 4"},
+    };
+    for (String[] one : all) {
+      GluedSolids x = Checks.solidOf(one[0]);
+      C.due("RANK of " + one[0], x.group() + ": " + Checks.row(x), one[1] + ": " + one[2]);
+      PlainModel m = new PlainModel();
+      m.text = one[0];
+      m.solid();
+      C.due("the plain model's of " + one[0], m.group() + ": " + m.told.toString().replaceAll("[\\[\\],]", ""), one[1] + ": " + one[2]);
     }
   }
 
