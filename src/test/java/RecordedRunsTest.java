@@ -8,7 +8,7 @@ import java.util.stream.Stream;
 
 /**
  * Runs of 512 calls on a new object, with the answers that another model gave (src/test/other/model.py: written from the
- * document apart from the class and from PlainModel). A line is a call and its answer; "new" begins a new object.
+ * document without a look into PlainModel). A line is a call and its answer; "new" begins a new object.
  */
 public final class RecordedRunsTest {
   private static final Checks C = new Checks();

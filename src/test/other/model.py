@@ -1,4 +1,4 @@
-"""Another model of GluedSolids, read from ../shared/DOC.md apart from the class and from PlainModel.java.
+"""Another model of GluedSolids, written from ../shared/DOC.md without a look into PlainModel.java.
 
 It is slow and plain: classes by sets that are united, MOVES by labels of CORNERS, least rows by all NUMBERINGS.
 A solid is a list of TETS, each a list of four FACES: None, or (TET, permutation). record.py writes runs with it.
